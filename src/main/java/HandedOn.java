@@ -931,7 +931,7 @@ public final class HandedOn {
     }
   }
 
-  /** A LAW as steps for a stack: each CLAUSE leaves its SUM and, above that, whether its "if" is so. */
+  /** A LAW as steps for a stack: a CLAUSE leaves its SUM and, above it, whether its "if" is so. */
   private static final class Law {
     final int[] heads;
     final int[] ends;
@@ -944,7 +944,7 @@ public final class HandedOn {
     }
   }
 
-  /** Reads a TEXT. What can't read on answers false and stays at the TOKEN, so FAULT is its start. */
+  /** Reads a TEXT. What can't go on answers false and stays at the TOKEN: its start is FAULT. */
   private static final class Reader {
     int start = 0;
     private int[] text = new int[0];
@@ -956,6 +956,8 @@ public final class HandedOn {
     private int brackets = 0;
     private int clauses = 0;
     private int size = 0;
+    private final char[] words = WORDS.toCharArray();
+    private final char[] signs = SIGNS.toCharArray();
     private final int[] heads = new int[CLAUSES_MOST];
     private final int[] ends = new int[CLAUSES_MOST];
     private final int[] steps = new int[CODE_MOST];
@@ -1141,10 +1143,18 @@ public final class HandedOn {
       } else if (isDigit(text[next])) {
         takeNumber();
       } else {
-        int sign = SIGNS.indexOf((char) text[next]);
-        kind = sign < 0 ? OTHER : SEMICOLON + sign;
-        next++;
+        takeSign();
       }
+    }
+
+    private void takeSign() {
+      kind = OTHER;
+      for (int i = 0; i < signs.length; i++) {
+        if (signs[i] == text[next]) {
+          kind = SEMICOLON + i;
+        }
+      }
+      next++;
     }
 
     private void takeWord() {
@@ -1154,8 +1164,8 @@ public final class HandedOn {
       kind = OTHER;
       int word = 0;
       int from = 0;
-      for (int i = 0; i < WORDS.length() && kind == OTHER; i++) {
-        if (WORDS.charAt(i) == ' ') {
+      for (int i = 0; i < words.length && kind == OTHER; i++) {
+        if (words[i] == ' ') {
           if (isWord(from, i)) {
             kind = word;
           }
@@ -1170,7 +1180,7 @@ public final class HandedOn {
         return false;
       }
       for (int i = from; i < to; i++) {
-        if (WORDS.charAt(i) != text[start + i - from]) {
+        if (words[i] != text[start + i - from]) {
           return false;
         }
       }
@@ -1220,8 +1230,10 @@ public final class HandedOn {
     }
 
     int told(Law law, int head) {
-      int last = law == null ? NONE : law.heads.length - 1;
-      for (int clause = last; clause >= 0; clause--) {
+      if (law == null) {
+        return without[head];
+      }
+      for (int clause = law.heads.length - 1; clause >= 0; clause--) {
         if (law.heads[clause] == head && clauseHolds(law, clause)) {
           return Math.max(TOLD_LEAST[head], Math.min(TOLD_MOST[head], stack[0]));
         }

@@ -14,9 +14,10 @@ public final class AgainstPlainModelTest {
   private static final Map<String, Method> PLAIN = new HashMap<>();
 
   // Each call as often as it stands here.
-  private static final String[] NAMES = ("one one put put put meet meet meet art rule rule rule know "
-      + "know know know of feed end row slack law fault force force handed handed handed handed show "
-      + "show show show show show wrong wrong clear behind behind behind has has spent why why why "
+  private static final String[] NAMES = ("one one put put put meet meet meet art rule rule rule "
+      + "know know know know of feed end row slack law fault force force handed handed handed "
+      + "handed show show show show show show wrong wrong clear behind behind behind has has "
+      + "spent why why why "
       + "judge judge soonest first first fewest fewest without left start best ring "
       + "order talk talk heard talks week drawn drawn image back count status text text text alike "
       + "well").split(" ");
@@ -234,7 +235,8 @@ public final class AgainstPlainModelTest {
       case "week":
         return new int[] {artNumber(), near(0, 1000000)};
       case "drawn":
-        return random.nextInt(4) == 0 ? new int[] {near(0, 1), -1} : new int[] {near(0, 6), person()};
+        return random.nextInt(4) == 0
+            ? new int[] {near(0, 1), -1} : new int[] {near(0, 6), person()};
       case "image":
       case "back":
         return new int[] {near(0, 1)};
@@ -255,7 +257,8 @@ public final class AgainstPlainModelTest {
 
   private int[] put() {
     int what = near(0, 3);
-    int value = what == 3 ? near(0, (1 << 30) - 1) & near(-1, (1 << 30) - 1) : near(0, what == 2 ? 12 : 9);
+    int all = (1 << 30) - 1;
+    int value = what == 3 ? near(0, all) & near(-1, all) : near(0, what == 2 ? 12 : 9);
     return new int[] {person(), what, value};
   }
 
