@@ -1642,11 +1642,12 @@ public final class HandedOn {
       }
     }
 
-    // Bit d of inTime: who stands so at the beginning of DAY d can still do it so soon.
+    // Bit d of inTime: who stands so at the beginning of DAY d can still do it so soon. How they
+    // stand at the beginning of DAY 0 is given, so that is not asked.
     private void markInTime(People people, int knowing) {
       Arrays.fill(inTime, 0);
       inTime[everybody] = ~0;
-      for (int day = pathDays - 1; day >= 0; day--) {
+      for (int day = pathDays - 1; day > 0; day--) {
         for (int set = everybody - 1; set >= knowing; set--) {
           if ((set & knowing) == knowing && canBeInTime(people, set, day)) {
             inTime[set] |= 1 << day;

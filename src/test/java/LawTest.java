@@ -89,6 +89,12 @@ public final class LawTest {
     fault("learnt 4294967296", 7);
     fault("learnt 18446744073709551617", 7);
     fault("learnt 1 . 5", 9);
+    fault("learnt knowsa", 7);
+    fault("learnt knowsz", 7);
+    fault("learnt knows`", 12);
+    fault("learnt knows{", 12);
+    fault("learnt 9:", 8);
+    fault("learnt 0/9", -1);
     fault("learnt\t1", 6);
     fault("learnt 1" + (char) 0, 8);
     fault("learnt 1" + (char) 233, 8);

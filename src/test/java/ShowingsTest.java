@@ -364,5 +364,10 @@ public final class ShowingsTest {
       x.know(i, 0, 1);
     }
     DUE.is("judge(3), all at first", x.judge(3), 0);
+    for (int i = 0; i < 4; i++) {
+      x.know(i, 0, 0);
+      DUE.is("judge(3), but for " + i, x.judge(3), -1);
+      x.know(i, 0, 1);
+    }
   }
 }

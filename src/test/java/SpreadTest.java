@@ -6,6 +6,7 @@ public final class SpreadTest {
     soonest();
     soonestLong();
     whoCanBeShown();
+    notEnoughForTwo();
     theRightOnes();
     first();
     fewest();
@@ -56,6 +57,8 @@ public final class SpreadTest {
     x.know(0, 0, 1);
     x.put(1, 3, (1 << 29) - 1);
     DUE.is("on DAY 29 alone", x.soonest(0), 30);
+    DUE.is("start on DAY 29", x.start(0, 1), 30);
+    DUE.is("best on DAY 29", x.best(0), 0);
     DUE.is("first(0, 28)", x.first(0, 28), 1);
     DUE.is("first(0, 29)", x.first(0, 29), 3);
     x.put(1, 3, (1 << 30) - 1);
@@ -66,6 +69,34 @@ public final class SpreadTest {
     DUE.is("the teller AWAY", x.soonest(0), 30);
     x.rule(0, 0, 2);
     DUE.is("too few HOURS", x.soonest(0), -1);
+    HandedOn y = of(3, 1, 1, 1);
+    y.know(0, 0, 1);
+    y.know(2, 0, 1);
+    y.put(1, 3, (1 << 29) - 1);
+    y.put(2, 3, (1 << 30) - 1);
+    DUE.is("left, on DAY 29", y.left(0), 1);
+    y.know(2, 0, 0);
+    DUE.is("left, on DAY 29 with 2", y.left(0), 2);
+    DUE.is("without 2, on DAY 29", y.without(0, 2), 30);
+  }
+
+  /** Each can show enough for all alone, but not for those two whom only one of them MEETS. */
+  private static void notEnoughForTwo() {
+    for (int apart = 0; apart < 3; apart++) {
+      HandedOn x = of(5, 1, 1, 1);
+      x.put(4, 2, 12);
+      x.know(3, 0, 1);
+      x.know(4, 0, 1);
+      for (int i = 0; i < 3; i++) {
+        x.meet(i == apart ? 3 : 4, i, 0);
+        for (int j = 0; j < i; j++) {
+          x.meet(i, j, 0);
+        }
+      }
+      DUE.is("two whom 3 alone MEETS, apart " + apart, x.soonest(0), 2);
+      x.put(3, 2, 2);
+      DUE.is("enough for both", x.soonest(0), 1);
+    }
   }
 
   private static void whoCanBeShown() {
