@@ -36,7 +36,7 @@ public final class AgainstPlainModelTest {
   }
 
   public static void main(String[] args) throws Exception {
-    int runs = args.length > 0 ? Integer.parseInt(args[0]) : 150;
+    int runs = args.length > 0 ? Integer.parseInt(args[0]) : 250;
     long from = args.length > 1 ? Long.parseLong(args[1]) : 1;
     collect(HandedOn.class, OURS);
     collect(PlainModel.class, PLAIN);

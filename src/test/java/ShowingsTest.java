@@ -13,6 +13,8 @@ public final class ShowingsTest {
     whyInOrder();
     needs();
     lawsInShowings();
+    oneOfThemRefuses();
+    eachShowsEach();
     wrongOnes();
     wrongTies();
     none();
@@ -227,6 +229,26 @@ public final class ShowingsTest {
     x.know(0, 1, 0);
     x.know(1, 1, 4);
     DUE.is("why(1): the teller need not", x.why(1), 0);
+    for (int art = 0; art < 5; art++) {
+      for (int needed = 0; needed < 5; needed++) {
+        oneNeedsOne(art, needed);
+      }
+    }
+  }
+
+  private static void oneNeedsOne(int art, int needed) {
+    HandedOn x = Due.people(12, 12);
+    for (int i = 0; i < 5; i++) {
+      x.art(1, 1);
+      x.know(0, i, 9);
+    }
+    if (art != needed) {
+      x.rule(art, 3, 1 << needed);
+      x.show(0, 0, art, 2);
+      DUE.is("ART " + art + " NEEDS " + needed, x.why(0), 8);
+      x.know(1, needed, 1);
+      DUE.is("ART " + art + " NEEDS " + needed + " that it has", x.why(0), 0);
+    }
   }
 
   private static void lawsInShowings() {
@@ -258,6 +280,35 @@ public final class ShowingsTest {
     x.show(9, 0, 0, 8);
     DUE.is("refuses by its LEVEL then", x.why(5), 9);
     DUE.is("behind(29, 3, 0)", x.behind(29, 3, 0), 9);
+  }
+
+  private static void oneOfThemRefuses() {
+    for (int refusing = 1; refusing < 4; refusing++) {
+      HandedOn x = four();
+      x.rule(0, 1, 3);
+      Due.law(x, "refuses if learner=" + refusing);
+      x.force(0);
+      x.show(0, 0, 0, 14);
+      DUE.is("one of three refuses", x.why(0), 9);
+      x.show(0, 0, 0, 14 & ~(1 << refusing));
+      DUE.is("the other two do not", x.why(1), 0);
+    }
+  }
+
+  /** Each shows each: whoever it is, the learner has it then, and spends its hours. */
+  private static void eachShowsEach() {
+    for (int teller = 0; teller < 8; teller++) {
+      HandedOn x = Due.people(4, 4, 4, 4, 4, 4, 4, 4);
+      x.art(1, 1);
+      x.know(teller, 0, 9);
+      for (int learner = 0; learner < 8; learner++) {
+        x.show(learner, teller, 0, 1 << learner);
+        boolean itself = learner == teller;
+        DUE.is("why", x.why(learner), itself ? 4 : 0);
+        DUE.is("behind", x.behind(learner, learner, 0), itself ? 9 : 8);
+        DUE.is("spent", x.spent(learner, learner), itself ? 0 : 1);
+      }
+    }
   }
 
   private static void wrongOnes() {

@@ -7,10 +7,12 @@ public final class SpreadTest {
     soonestLong();
     whoCanBeShown();
     notEnoughForTwo();
+    notBoth();
     theRightOnes();
     first();
     fewest();
     fewestFirst();
+    fewestByTheRightOne();
     without();
     start();
     none();
@@ -125,6 +127,22 @@ public final class SpreadTest {
     DUE.is("whatever LEVELS, LAWS, NEEDS", x.soonest(0), 2);
   }
 
+  /** Two are shown on DAY 0, but never both 2 and 3: they MEET 0 alone, who is back on DAY 3. */
+  private static void notBoth() {
+    HandedOn x = of(5, 1, 1, 1);
+    x.know(0, 0, 1);
+    x.know(1, 0, 1);
+    int[][] apart = {{1, 2}, {1, 3}, {0, 4}, {2, 3}, {2, 4}, {3, 4}};
+    for (int[] a : apart) {
+      x.meet(a[0], a[1], 0);
+    }
+    x.put(0, 3, 6);
+    DUE.is("soonest: 0 shows 2 and 3 on two DAYS", x.soonest(0), 4);
+    DUE.is("first(0, 0): 4 can wait", x.first(0, 0), 3 + 4);
+    x.put(0, 2, 2);
+    DUE.is("0 shows both on DAY 0", x.soonest(0), 1);
+  }
+
   /** Those who are shown first must be those who can go on: greedy numbers would be too slow. */
   private static void theRightOnes() {
     HandedOn x = of(5, 1, 1, 1);
@@ -224,6 +242,27 @@ public final class SpreadTest {
     x.rule(0, 1, 3);
     DUE.is("fewest(0, 0): all by 1", x.fewest(0, 0), 1);
     DUE.is("fewest(0, 1): 0 would be too many", x.fewest(0, 1), 1);
+  }
+
+  /** 0 MEETS all but 4; one of the others MEETS 4 and a second one: it must be in the first two. */
+  private static void fewestByTheRightOne() {
+    for (int right = 1; right <= 3; right++) {
+      for (int second = 1; second <= 3; second++) {
+        HandedOn x = of(5, 0, 1, 2);
+        x.know(0, 0, 1);
+        for (int i = 0; i < 5; i++) {
+          for (int j = i + 1; j < 5; j++) {
+            x.meet(i, j, i == 0 && j < 4 ? 1 : 0);
+          }
+        }
+        x.meet(right, 4, 1);
+        if (second != right) {
+          x.meet(right, second, 1);
+        }
+        DUE.is("fewest by " + right + " and " + second, x.fewest(0, 0), second == right ? 3 : 2);
+        DUE.is("the first who shows", x.fewest(0, 1), 0);
+      }
+    }
   }
 
   private static void without() {
