@@ -971,7 +971,7 @@ public final class HandedOn {
       clauses = 0;
       size = 0;
       advance();
-      while (clauses < CLAUSES_MOST) {
+      for (int i = 0; i < CLAUSES_MOST; i++) {
         if (!readClause()) {
           return null;
         }

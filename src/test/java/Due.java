@@ -1,6 +1,7 @@
 /** Counts the answers of a test and prints those that are not due. */
 final class Due {
   private final String test;
+  private String sentence = "";
   private int asked;
   private int wrong;
 
@@ -8,11 +9,16 @@ final class Due {
     this.test = test;
   }
 
+  /** What is asked from here on belongs to this sentence of the document. */
+  void sentence(String told) {
+    sentence = " (" + told + ")";
+  }
+
   void is(String call, long got, long want) {
     asked++;
     if (got != want) {
       wrong++;
-      System.out.println(test + ": " + call + " answered " + got + ", due is " + want);
+      System.out.println(test + sentence + ": " + call + " answered " + got + ", due is " + want);
     }
   }
 
@@ -52,6 +58,16 @@ final class Due {
   static int law(HandedOn x, String text) {
     feed(x, text);
     return x.law();
+  }
+
+  /** So many alike ones, and one ART. */
+  static HandedOn crowd(int number, int hours, int takes, int once) {
+    HandedOn x = new HandedOn();
+    for (int i = 0; i < number; i++) {
+      x.one(5, 5, hours);
+    }
+    x.art(takes, once);
+    return x;
   }
 
   /** People with LEARN 5, TELL 5 and so many HOURS. */

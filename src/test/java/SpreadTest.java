@@ -19,17 +19,8 @@ public final class SpreadTest {
     DUE.end();
   }
 
-  private static HandedOn of(int people, int hours, int takes, int once) {
-    HandedOn x = new HandedOn();
-    for (int i = 0; i < people; i++) {
-      x.one(5, 5, hours);
-    }
-    x.art(takes, once);
-    return x;
-  }
-
   private static void soonest() {
-    HandedOn x = of(8, 4, 4, 1);
+    HandedOn x = Due.crowd(8, 4, 4, 1);
     DUE.is("nobody KNOWS it", x.soonest(0), -1);
     x.know(0, 0, 1);
     DUE.is("8 with 1 each DAY", x.soonest(0), 3);
@@ -48,14 +39,14 @@ public final class SpreadTest {
       x.know(i, 0, 1);
     }
     DUE.is("all KNOW it", x.soonest(0), 0);
-    HandedOn y = of(0, 0, 1, 1);
+    HandedOn y = Due.crowd(0, 0, 1, 1);
     DUE.is("without PEOPLE", y.soonest(0), 0);
     DUE.is("first without PEOPLE", y.first(0, 3), 0);
     DUE.is("fewest without PEOPLE", y.fewest(0, 0), 0);
   }
 
   private static void soonestLong() {
-    HandedOn x = of(2, 1, 1, 1);
+    HandedOn x = Due.crowd(2, 1, 1, 1);
     x.know(0, 0, 1);
     x.put(1, 3, (1 << 29) - 1);
     DUE.is("on DAY 29 alone", x.soonest(0), 30);
@@ -71,7 +62,7 @@ public final class SpreadTest {
     DUE.is("the teller AWAY", x.soonest(0), 30);
     x.rule(0, 0, 2);
     DUE.is("too few HOURS", x.soonest(0), -1);
-    HandedOn y = of(3, 1, 1, 1);
+    HandedOn y = Due.crowd(3, 1, 1, 1);
     y.know(0, 0, 1);
     y.know(2, 0, 1);
     y.put(1, 3, (1 << 29) - 1);
@@ -85,7 +76,7 @@ public final class SpreadTest {
   /** Each can show enough for all alone, but not for those two whom only one of them MEETS. */
   private static void notEnoughForTwo() {
     for (int apart = 0; apart < 3; apart++) {
-      HandedOn x = of(5, 1, 1, 1);
+      HandedOn x = Due.crowd(5, 1, 1, 1);
       x.put(4, 2, 12);
       x.know(3, 0, 1);
       x.know(4, 0, 1);
@@ -102,7 +93,7 @@ public final class SpreadTest {
   }
 
   private static void whoCanBeShown() {
-    HandedOn x = of(3, 6, 3, 1);
+    HandedOn x = Due.crowd(3, 6, 3, 1);
     x.know(0, 0, 1);
     DUE.is("two on one DAY", x.soonest(0), 1);
     x.put(1, 2, 2);
@@ -129,7 +120,7 @@ public final class SpreadTest {
 
   /** Two are shown on DAY 0, but never both 2 and 3: they MEET 0 alone, who is back on DAY 3. */
   private static void notBoth() {
-    HandedOn x = of(5, 1, 1, 1);
+    HandedOn x = Due.crowd(5, 1, 1, 1);
     x.know(0, 0, 1);
     x.know(1, 0, 1);
     int[][] apart = {{1, 2}, {1, 3}, {0, 4}, {2, 3}, {2, 4}, {3, 4}};
@@ -145,7 +136,7 @@ public final class SpreadTest {
 
   /** Those who are shown first must be those who can go on: greedy numbers would be too slow. */
   private static void theRightOnes() {
-    HandedOn x = of(5, 1, 1, 1);
+    HandedOn x = Due.crowd(5, 1, 1, 1);
     x.know(0, 0, 1);
     for (int i = 1; i <= 3; i++) {
       x.meet(i, 4, 0);
@@ -165,7 +156,7 @@ public final class SpreadTest {
   }
 
   private static void first() {
-    HandedOn x = of(6, 2, 1, 1);
+    HandedOn x = Due.crowd(6, 2, 1, 1);
     x.know(5, 0, 1);
     DUE.is("soonest", x.soonest(0), 2);
     DUE.is("first(0, -1)", x.first(0, -1), 32);
@@ -194,7 +185,7 @@ public final class SpreadTest {
   }
 
   private static void fewest() {
-    HandedOn x = of(8, 0, 6, 1);
+    HandedOn x = Due.crowd(8, 0, 6, 1);
     DUE.is("nobody KNOWS it", x.fewest(0, 0), -1);
     DUE.is("nobody KNOWS it", x.fewest(0, 1), -1);
     x.know(3, 0, 1);
@@ -226,7 +217,7 @@ public final class SpreadTest {
 
   /** 0 and 1 KNOW it. 0 MEETS 2 alone, 1 MEETS 2, 3, 4: two SHOWINGS, 0 can begin with 2. */
   private static void fewestFirst() {
-    HandedOn x = of(5, 4, 1, 2);
+    HandedOn x = Due.crowd(5, 4, 1, 2);
     x.know(0, 0, 1);
     x.know(1, 0, 1);
     int[][] apart = {{0, 3}, {0, 4}, {2, 3}, {2, 4}, {3, 4}};
@@ -248,7 +239,7 @@ public final class SpreadTest {
   private static void fewestByTheRightOne() {
     for (int right = 1; right <= 3; right++) {
       for (int second = 1; second <= 3; second++) {
-        HandedOn x = of(5, 0, 1, 2);
+        HandedOn x = Due.crowd(5, 0, 1, 2);
         x.know(0, 0, 1);
         for (int i = 0; i < 5; i++) {
           for (int j = i + 1; j < 5; j++) {
@@ -266,7 +257,7 @@ public final class SpreadTest {
   }
 
   private static void without() {
-    HandedOn x = of(4, 2, 1, 1);
+    HandedOn x = Due.crowd(4, 2, 1, 1);
     x.know(1, 0, 1);
     DUE.is("soonest", x.soonest(0), 2);
     DUE.is("without(0, 0)", x.without(0, 0), 1);
@@ -282,16 +273,16 @@ public final class SpreadTest {
     DUE.is("left(0)", x.left(0), 3);
     x.know(1, 0, 0);
     DUE.is("left(0): it can't be", x.left(0), -1);
-    HandedOn y = of(1, 2, 1, 1);
+    HandedOn y = Due.crowd(1, 2, 1, 1);
     DUE.is("without others", y.without(0, 0), 0);
     DUE.is("left(0)", y.left(0), 0);
-    HandedOn z = of(0, 0, 1, 1);
+    HandedOn z = Due.crowd(0, 0, 1, 1);
     DUE.is("left(0) of nobody", z.left(0), -1);
     DUE.is("best(0) of nobody", z.best(0), -1);
   }
 
   private static void start() {
-    HandedOn x = of(4, 1, 1, 1);
+    HandedOn x = Due.crowd(4, 1, 1, 1);
     for (int i = 0; i < 4; i++) {
       x.know(i, 0, 1);
     }
@@ -311,14 +302,14 @@ public final class SpreadTest {
     DUE.is("start(0, 0): 3 can't be shown", x.start(0, 0), -1);
     DUE.is("start(0, 3): 3 can't show", x.start(0, 3), -1);
     DUE.is("best(0)", x.best(0), -1);
-    HandedOn y = of(1, 0, 1, 1);
+    HandedOn y = Due.crowd(1, 0, 1, 1);
     DUE.is("one alone", y.start(0, 0), 0);
     DUE.is("one alone, best", y.best(0), 0);
     DUE.is("one alone does not KNOW it", y.soonest(0), -1);
   }
 
   private static void none() {
-    HandedOn x = of(2, 1, 1, 1);
+    HandedOn x = Due.crowd(2, 1, 1, 1);
     x.know(0, 0, 1);
     int[] bad = {1, -1, 5, Integer.MIN_VALUE, Integer.MAX_VALUE};
     for (int b : bad) {
