@@ -15,6 +15,7 @@ public final class RingOrderAlikeEdgesTest {
     ringRound();
     ringOwnLevels();
     ringByLaw();
+    ringAskedOnTheWay();
     orderWithoutNeeds();
     orderInARow();
     orderTheLowestFirst();
@@ -180,6 +181,29 @@ public final class RingOrderAlikeEdgesTest {
     DUE.is("from 0: HANDED by 2", x.ring(0, 0), 7);
     DUE.is("from 1: HANDED by 0", x.ring(1, 0), 0);
     DUE.is("from 2: HANDED by 1", x.ring(2, 0), 0);
+  }
+
+  private static void ringAskedOnTheWay() {
+    DUE.sentence("IV: it goes round by the LAW in FORCE, each step of its own teller and learner");
+    String[] words = {"knows", "has", "tell", "learn", "art", "day", "teller", "learner", "once"};
+    int[] onTheWay = {2, 0, 5, 6, 1, 0, 1, 2, 1};
+    int[] atTheEnd = {2, 2, 8, 1, 1, 0, 2, 0, 1};
+    for (int i = 0; i < words.length; i++) {
+      HandedOn x = new HandedOn();
+      x.one(1, 3, 0);
+      x.one(4, 5, 0);
+      x.one(6, 8, 0);
+      x.art(1, 1);
+      x.art(1, 1);
+      x.know(0, 1, 2);
+      x.know(1, 1, 1);
+      Due.law(x, "learnt knows;learnt " + words[i] + " if learner=2");
+      Due.law(x, "learnt knows;learnt " + words[i] + " if learner=0");
+      x.force(0);
+      DUE.is(words[i] + ", 1 shows 2", x.ring(0, 1), onTheWay[i]);
+      x.force(1);
+      DUE.is(words[i] + ", 2 shows 0", x.ring(0, 1), atTheEnd[i]);
+    }
   }
 
   private static void orderWithoutNeeds() {

@@ -25,6 +25,7 @@ public final class RowTalkWeekEdgesTest {
     anotherOneThatIsThere();
     shownOnceADay();
     theGreater();
+    askedInAWeek();
     drawnDays();
     drawnOfTheLatest();
     DUE.end();
@@ -428,6 +429,42 @@ public final class RowTalkWeekEdgesTest {
       DUE.is("drawn(0, 1), it had " + had, x.drawn(0, 1), Math.max(had, 5));
       DUE.is("of(1, 5): KNOWS stays", x.of(1, 5), had);
     }
+  }
+
+  private static void askedInAWeek() {
+    DUE.sentence("V: by LEVELS and the LAW in FORCE, once 1");
+    String[] words = {"knows", "has", "tell", "learn", "art", "day", "teller", "learner", "once"};
+    for (int day = 0; day < 7; day++) {
+      for (int teller = 0; teller < 2; teller++) {
+        int[] due = {6, 0, 8, 4, 2, day, teller, 1 - teller, 1};
+        for (int i = 0; i < words.length; i++) {
+          String told = "learnt " + words[i] + "+1";
+          DUE.is(told + " on DAY " + day, weekOfOne(told, day, teller).drawn(6, 1 - teller),
+              Math.min(9, due[i] + 1));
+          String spoils = "wrong 100*[1-[" + words[i] + "-" + due[i] + "]*[" + words[i] + "-"
+              + due[i] + "]]";
+          DUE.is(spoils + " on DAY " + day, weekOfOne(spoils, day, teller).drawn(0, NONE), 1);
+        }
+      }
+    }
+  }
+
+  /** The teller (TELL 8, LEVEL 6) is there on that DAY alone, and draws the other one (LEARN 4). */
+  private static HandedOn weekOfOne(String law, int day, int teller) {
+    HandedOn x = Due.people(4, 4);
+    for (int i = 0; i < 3; i++) {
+      x.art(1, 1);
+    }
+    x.put(teller, 1, 8);
+    x.put(1 - teller, 0, 4);
+    x.know(teller, 2, 6);
+    x.put(teller, 3, (1 << 30) - 1 & ~(1 << day));
+    x.put(1 - teller, 3, 127 & -2 << day);
+    Due.law(x, law);
+    x.force(0);
+    // SEED 0 draws 12345, which is odd; SEED 1 draws 13448, which is even.
+    x.week(2, teller);
+    return x;
   }
 
   private static void drawnDays() {

@@ -16,6 +16,7 @@ public final class ShowingEdgesTest {
     takesTwelve();
     takesWithoutLearners();
     takesOfTheLowestLearner();
+    askedInAShowing();
     onceEdges();
     oneOfThem();
     needsLeast();
@@ -246,6 +247,37 @@ public final class ShowingEdgesTest {
       DUE.is("spent(0, 0)", x.spent(0, 0), lowest);
       DUE.is("spent(1, 7)", x.spent(1, 7), 7);
     }
+  }
+
+  private static void askedInAShowing() {
+    DUE.sentence("II: a LAW is asked of a teller and a learner, the ART, the DAY, and once");
+    String[] words = {"knows", "has", "tell", "learn", "art", "day", "teller", "learner", "once"};
+    int[] due = {6, 0, 8, 4, 1, 7, 2, 3, 2};
+    for (int i = 0; i < words.length; i++) {
+      HandedOn x = askedOfTwoAndThree("learnt " + words[i]);
+      DUE.is("learnt " + words[i], x.behind(7, 3, 1), due[i]);
+      HandedOn y = askedOfTwoAndThree("takes " + words[i]);
+      DUE.is("takes " + words[i], y.spent(7, 3), Math.max(1, due[i]));
+      String refused = words[i] + "=" + due[i];
+      DUE.is("refuses if " + refused, askedOfTwoAndThree("refuses if " + refused).why(0), 9);
+      HandedOn z = askedOfTwoAndThree("refuses if learner=3 and not " + refused);
+      DUE.is("refuses if not " + refused, z.why(0), 0);
+    }
+  }
+
+  /** On DAY 7 one 2 (TELL 8, LEVEL 6) shows ART 1 to 3 (LEARN 4, LEVEL 0) and 5. */
+  private static HandedOn askedOfTwoAndThree(String law) {
+    HandedOn x = some(6);
+    x.art(1, 3);
+    x.put(2, 0, 1);
+    x.put(2, 1, 8);
+    x.put(3, 0, 4);
+    x.put(3, 1, 3);
+    x.know(2, 1, 6);
+    Due.law(x, law);
+    x.force(0);
+    x.show(7, 2, 1, 8 | 32);
+    return x;
   }
 
   private static void onceEdges() {

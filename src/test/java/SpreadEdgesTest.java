@@ -11,6 +11,7 @@ public final class SpreadEdgesTest {
     hoursThroughTakes();
     hoursOfTakesAtLeast();
     timesAtOnce();
+    notEnoughForTwo();
     awayOnADay();
     allKnowItAtFirst();
     nobodyKnowsIt();
@@ -22,6 +23,7 @@ public final class SpreadEdgesTest {
     fewestOfEachSize();
     fewestWithoutHours();
     fewestFirst();
+    fewestByTheBetter();
     withoutOthers();
     withoutTheOnlyOne();
     leftTheLowest();
@@ -135,6 +137,42 @@ public final class SpreadEdgesTest {
         DUE.is("best", x.best(0), 0);
       }
     }
+  }
+
+  private static void notEnoughForTwo() {
+    DUE.sentence("IV: one is shown by one: two whom only one MEETS who has the hours for one");
+    for (int open = 0; open < 256; open++) {
+      if (Integer.bitCount(open) == 3) {
+        for (int apart = 0; apart < 8; apart++) {
+          if ((open >> apart & 1) != 0) {
+            notEnoughForTwo(open, apart);
+          }
+        }
+      }
+    }
+  }
+
+  /** "busy" MEETS all that are open but the one apart, "idle" that one alone. */
+  private static void notEnoughForTwo(int open, int apart) {
+    int busy = Integer.numberOfTrailingZeros(~open);
+    int idle = Integer.numberOfTrailingZeros(~open & ~(1 << busy));
+    HandedOn x = Due.crowd(8, 1, 1, 1);
+    for (int i = 0; i < 8; i++) {
+      boolean isOpen = (open >> i & 1) != 0;
+      x.know(i, 0, isOpen ? 0 : 1);
+      x.put(i, 2, isOpen || i == busy ? 1 : i == idle ? 12 : 0);
+      for (int j = 0; j < i; j++) {
+        x.meet(i, j, 0);
+      }
+    }
+    for (int i = 0; i < 8; i++) {
+      if ((open >> i & 1) != 0) {
+        x.meet(i == apart ? idle : busy, i, 1);
+      }
+    }
+    DUE.is("open " + open + ", apart " + apart, x.soonest(0), 2);
+    x.put(busy, 2, 2);
+    DUE.is("enough for both", x.soonest(0), 1);
   }
 
   private static void awayOnADay() {
@@ -318,6 +356,35 @@ public final class SpreadEdgesTest {
       }
       DUE.is("fewest, know: " + knowing, x.fewest(0, 0), 8 - Integer.bitCount(knowing));
       DUE.is("the FIRST who shows", x.fewest(0, 1), Integer.numberOfTrailingZeros(knowing));
+    }
+  }
+
+  private static void fewestByTheBetter() {
+    DUE.sentence("IV: FEWEST SHOWINGS: one of two who could go on shows both, the other only one");
+    for (int shift = 0; shift < 8; shift++) {
+      for (int way = 0; way < 2; way++) {
+        int knowing = shift;
+        int better = (shift + 1 + way) % 8;
+        int worse = (shift + 2 - way) % 8;
+        int[] last = {(shift + 3) % 8, (shift + 4) % 8};
+        HandedOn x = Due.crowd(8, 0, 1, 2);
+        for (int i = 0; i < 8; i++) {
+          x.know(i, 0, 1);
+          for (int j = 0; j < i; j++) {
+            x.meet(i, j, 0);
+          }
+        }
+        for (int one : new int[] {better, worse, last[0], last[1]}) {
+          x.know(one, 0, 0);
+        }
+        x.meet(knowing, better, 1);
+        x.meet(knowing, worse, 1);
+        x.meet(better, last[0], 1);
+        x.meet(better, last[1], 1);
+        x.meet(worse, last[0], 1);
+        DUE.is("fewest by " + better, x.fewest(0, 0), 2);
+        DUE.is("the FIRST who shows", x.fewest(0, 1), knowing);
+      }
     }
   }
 
