@@ -1,4 +1,4 @@
-/** Term IV and promises 32 to 35: each sentence that names an edge of ALIKE ones, RING and ORDER. */
+/** Term IV and promises 32 to 35: each sentence that names an edge of ALIKE, RING, ORDER. */
 public final class RingOrderAlikeEdgesTest {
   private static final Due DUE = new Due("RingOrderAlikeEdgesTest");
   private static final int NONE = HandedOn.NONE;
@@ -170,7 +170,7 @@ public final class RingOrderAlikeEdgesTest {
   }
 
   private static void ringByLaw() {
-    DUE.sentence("IV: by the LAW in FORCE (once 1, DAY 0), till the first would be HANDED it again");
+    DUE.sentence("IV: by the LAW (once 1, DAY 0), till the first would be HANDED it again");
     HandedOn x = Due.crowd(3, 4, 1, 1);
     x.know(0, 0, 2);
     Due.law(x, "learnt 9 if has=2 and learner=0 and once=1 and day=0;wrong 100;refuses");

@@ -379,7 +379,7 @@ public final class RowTalkWeekEdgesTest {
     DUE.is("week, neither has HOURS", x.week(0, 0), 2);
   }
 
-  /** Both show on DAY 0; they draw one another, so both are shown; a third one would be drawn twice. */
+  /** 0 and 1 show on DAY 0 alone: whom both of them draw, is shown by the first of them. */
   private static void shownOnceADay() {
     DUE.sentence("V: and was not shown it that DAY yet: a DRAW of 100");
     for (int seed = 0; seed < 60; seed++) {

@@ -287,7 +287,7 @@ public final class SpreadEdgesTest {
   }
 
   private static void firstOfEachLast() {
-    DUE.sentence("IV: the lowest of those sets which can still do it so soon: one is AWAY at first");
+    DUE.sentence("IV: the lowest set that can still do it so soon: one is AWAY at first");
     for (int last = 0; last < 8; last++) {
       HandedOn x = Due.crowd(8, 1, 1, 1);
       int teller = (last + 1) % 8;
@@ -301,7 +301,8 @@ public final class SpreadEdgesTest {
       DUE.is("first behind DAY 3", x.first(0, 3), 255);
       int set = x.first(0, 2);
       DUE.is("first behind DAY 2: " + last + " can't be in it", set & ~others, 0);
-      DUE.is("first behind DAY 2: the one that " + last + " MEETS is", set >> (last + 7) % 8 & 1, 1);
+      int met = (last + 7) % 8;
+      DUE.is("first behind DAY 2: the one that " + last + " MEETS is", set >> met & 1, 1);
       x.put(teller, 2, 0);
       DUE.is("soonest, nobody shows", x.soonest(0), NONE);
     }
