@@ -442,7 +442,8 @@ public final class LawEdgesTest {
       fault(" ".repeat(n), n);
     }
     String[] begun = {"learnt", "takes 1+", "wrong [1", "refuses if", "refuses if 1",
-        "refuses if 1=", "refuses if not", "refuses if (1=1", "refuses if 1=1 and", "refuses if 1=1 or", "refuses;"};
+        "refuses if 1=", "refuses if not", "refuses if (1=1", "refuses if 1=1 and",
+        "refuses if 1=1 or", "refuses;"};
     for (String text : begun) {
       fault(text, text.length());
       fault(text + " ", text.length() + 1);
